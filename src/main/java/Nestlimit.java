@@ -335,8 +335,8 @@ public final class Nestlimit {
 
     /** Answers what a program of the kind finds, whose parts found the first and the second. */
     private void combine(Kind kind, int place) {
-        answer.clear();
         if (!first.isThere || !second.isThere) {
+            answer.clear();
             return;
         }
         switch (kind) {
@@ -362,6 +362,7 @@ public final class Nestlimit {
                 answer.takeExp(first, place);
                 break;
             default:
+                answer.clear();
                 break;
         }
         answer.dropBeyondReach(place);
@@ -604,11 +605,12 @@ public final class Nestlimit {
         }
 
         void invert(Interval one, int place) {
-            clear();
-            if (one.low > 0 || one.high < 0) {
-                long square = unitsAt(2 * place);
-                assign(cut(square, one.high), fill(square, one.low));
+            if (one.low <= 0 && one.high >= 0) {
+                clear();
+                return;
             }
+            long square = unitsAt(2 * place);
+            assign(cut(square, one.high), fill(square, one.low));
         }
 
         void takeRoot(Interval one, int place) {
@@ -618,9 +620,9 @@ public final class Nestlimit {
         }
 
         void takeExp(Interval one, int place) {
-            clear();
             long whole = unitsAt(place);
             if (one.low < -whole || one.high > whole) {
+                clear();
                 return;
             }
             assign(whole, whole);

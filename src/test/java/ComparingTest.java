@@ -85,6 +85,15 @@ public final class ComparingTest {
         Check.due("compare(0, 1, 20)", 0, () -> x.compare(0, 1, 20));
         Check.due("compare(1, 0, 21)", -1, () -> x.compare(1, 0, 21));
         Check.due("decided(3, 4), the same number", -1, () -> x.decided(3, 4));
+        x.ratio(1, 999);
+        x.ratio(15, 29);
+        x.product(5, 6);
+        x.ratio(1, 1000);
+        x.ratio(518, 1000);
+        x.product(8, 9);
+        Check.due("compare(7, 10, 23)", 0, () -> x.compare(7, 10, 23));
+        Check.due("compare(7, 10, 24)", -1, () -> x.compare(7, 10, 24));
+        Check.due("decided(7, 10), at the last place", 24, () -> x.decided(7, 10));
     }
 
     private static void wrong() {

@@ -10,6 +10,7 @@ public final class DigitsTest {
         allOfThem();
         unsure();
         laterPlace();
+        lastPlace();
         ofNone();
         apart();
         wrong();
@@ -112,6 +113,28 @@ public final class DigitsTest {
         }
         Check.thrown("next(1), 24 are emitted", Check.STATE, () -> x.next(1));
         state(x, 1, 24, 0);
+        unsureOnOneSide();
+    }
+
+    /** Always [-2, 1], and [-1, 2]: one end is within the half, the other is not. */
+    private static void unsureOnOneSide() {
+        Nestlimit x = new Nestlimit();
+        x.ratio(1, 3);
+        x.difference(0, 0);
+        x.ratio(1, 1000);
+        x.product(2, 2);
+        x.product(3, 2);
+        x.difference(1, 4);
+        x.sum(1, 4);
+        Check.told(x, 4, 24, 0, 1);
+        for (int at = 0; at < 23; at++) {
+            digits(x, 5, 0);
+            digits(x, 6, 0);
+        }
+        Check.thrown("next(5), [-2, 1]", Check.STATE, () -> x.next(5));
+        Check.thrown("next(6), [-1, 2]", Check.STATE, () -> x.next(6));
+        state(x, 5, 23, 0);
+        state(x, 6, 23, 0);
     }
 
     private static void laterPlace() {
@@ -133,6 +156,26 @@ public final class DigitsTest {
         x.difference(0, 6);
         digits(x, 7, 0, 0, -1, 0);
         state(x, 7, 4, -2);
+    }
+
+    /** At the last place [0, 2] is left of 2/3 for the last digit, and [-2, 0] of -2/3. */
+    private static void lastPlace() {
+        Nestlimit x = new Nestlimit();
+        x.ratio(1, 3);
+        x.sum(0, 0);
+        x.ratio(-1, 3);
+        x.sum(2, 2);
+        for (int at = 0; at < 23; at++) {
+            x.next(1);
+            x.next(3);
+        }
+        state(x, 1, 23, 5592405);
+        state(x, 3, 23, -5592405);
+        Check.told(x, 1, 24, 11184810, 11184812);
+        digits(x, 1, 1);
+        digits(x, 3, -1);
+        state(x, 1, 24, 11184811);
+        state(x, 3, 24, -11184811);
     }
 
     private static void ofNone() {

@@ -126,6 +126,13 @@ public final class IntervalsTest {
         none(x, 6, 0, 1, 4);
         none(x, 6, 5, 5, 4);
         ends(x, 0, 4, 5, 4, 16, 16);
+        // The exponential of 0, if that was 1, 32 (above 1) or none.
+        x.exp(4);
+        x.ratio(32, 1);
+        ends(x, 7, 4, 0, 0, 1, 4);
+        none(x, 7, 4, 8, 0);
+        none(x, 7, 4, 8, 24);
+        none(x, 7, 4, 5, 4);
     }
 
     private static void wrongInstead() {

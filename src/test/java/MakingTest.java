@@ -145,13 +145,24 @@ public final class MakingTest {
         Check.raw(x, 7, 2, -1, 1);
         Check.due("product(2, 1)", 8, () -> x.product(2, 1));
         Check.raw(x, 8, 0, -1, 1);
+        // [-1, 1] by [2, 3], and by [-3, -2], both ways round: each of the four products is an end once.
+        x.ratio(7, 3);
+        x.ratio(-7, 3);
+        Check.due("product(2, 9)", 11, () -> x.product(2, 9));
+        Check.raw(x, 11, 0, -3, 3);
+        Check.due("product(9, 2)", 12, () -> x.product(9, 2));
+        Check.raw(x, 12, 0, -3, 3);
+        Check.due("product(2, 10)", 13, () -> x.product(2, 10));
+        Check.raw(x, 13, 0, -3, 3);
+        Check.due("product(10, 2)", 14, () -> x.product(10, 2));
+        Check.raw(x, 14, 0, -3, 3);
         x.ratio(8, 1);
         x.ratio(-8, 1);
         x.ratio(81, 10);
-        Check.due("product(9, 10)", 12, () -> x.product(9, 10));
-        Check.raw(x, 12, 24, -1073741824L, -1073741824L);
-        Check.due("product(10, 11)", 13, () -> x.product(10, 11));
-        Check.noRaw(x, 13, 24);
+        Check.due("product(15, 16)", 18, () -> x.product(15, 16));
+        Check.raw(x, 18, 24, -1073741824L, -1073741824L);
+        Check.due("product(16, 17)", 19, () -> x.product(16, 17));
+        Check.noRaw(x, 19, 24);
     }
 
     private static void greater() {
@@ -175,6 +186,13 @@ public final class MakingTest {
         Check.noRaw(x, 9, 24);
         Check.due("greater(2, 0), of one that finds none", 10, () -> x.greater(2, 0));
         Check.noRaw(x, 10, 24);
+        x.ratio(5, 1);
+        x.product(4, 11);
+        Check.raw(x, 12, 2, -5, 5);
+        Check.due("greater(12, 1), the low end of one, the high end of the other", 13, () -> x.greater(12, 1));
+        Check.raw(x, 13, 2, 2, 5);
+        Check.due("greater(1, 12)", 14, () -> x.greater(1, 12));
+        Check.raw(x, 14, 2, 2, 5);
     }
 
     private static void inverse() {
@@ -269,6 +287,12 @@ public final class MakingTest {
         Check.due("exp(5)", 11, () -> x.exp(5));
         Check.raw(x, 11, 0, 0, 4);
         Check.raw(x, 11, 24, 27660951, 27660954);
+        x.ratio(8, 9);
+        x.ratio(83, 99);
+        Check.due("exp(12), other from 11 steps", 14, () -> x.exp(12));
+        Check.raw(x, 14, 24, 40809323, 40809330);
+        Check.due("exp(13), other from 13 steps", 15, () -> x.exp(13));
+        Check.raw(x, 15, 24, 38799428, 38799434);
     }
 
     private static void zero() {
