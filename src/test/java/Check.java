@@ -61,6 +61,30 @@ final class Check {
         thrown("told(" + program + ", " + place + ", true)", STATE, () -> x.told(program, place, true));
     }
 
+    /** Both ends of what a program finds, and of what is told of it: each interval lies within the ones ahead of it. */
+    static void found(Nestlimit x, int program, int place, long low, long high) {
+        raw(x, program, place, low, high);
+        told(x, program, place, low, high);
+    }
+
+    static void none(Nestlimit x, int program, int place) {
+        noRaw(x, program, place);
+        noTold(x, program, place);
+    }
+
+    /** Both ends of what a program would find. */
+    static void instead(Nestlimit x, int program, int gone, int other, int place, long low, long high) {
+        String call = "instead(" + program + ", " + gone + ", " + other + ", " + place + ", ";
+        due(call + "false)", low, () -> x.instead(program, gone, other, place, false));
+        due(call + "true)", high, () -> x.instead(program, gone, other, place, true));
+    }
+
+    static void noInstead(Nestlimit x, int program, int gone, int other, int place) {
+        String call = "instead(" + program + ", " + gone + ", " + other + ", " + place + ", ";
+        thrown(call + "false)", STATE, () -> x.instead(program, gone, other, place, false));
+        thrown(call + "true)", STATE, () -> x.instead(program, gone, other, place, true));
+    }
+
     static void end(String test) {
         System.out.println(test + ": " + made + " answers, " + wrong + " not as due");
         if (wrong != 0) {

@@ -63,18 +63,6 @@ public final class IntervalsTest {
         Check.due("count", 2, () -> x.count());
     }
 
-    private static void ends(Nestlimit x, int program, int gone, int other, int place, long low, long high) {
-        String call = "instead(" + program + ", " + gone + ", " + other + ", " + place + ", ";
-        Check.due(call + "false)", low, () -> x.instead(program, gone, other, place, false));
-        Check.due(call + "true)", high, () -> x.instead(program, gone, other, place, true));
-    }
-
-    private static void none(Nestlimit x, int program, int gone, int other, int place) {
-        String call = "instead(" + program + ", " + gone + ", " + other + ", " + place + ", ";
-        Check.thrown(call + "false)", Check.STATE, () -> x.instead(program, gone, other, place, false));
-        Check.thrown(call + "true)", Check.STATE, () -> x.instead(program, gone, other, place, true));
-    }
-
     private static void instead() {
         Nestlimit x = new Nestlimit();
         x.ratio(1, 3);
@@ -84,25 +72,25 @@ public final class IntervalsTest {
         x.difference(3, 2);
         x.ratio(-4, 1);
         // The sum is [5, 6] and [40, 40] at the place 4; of the product both parts change with 0.
-        ends(x, 2, 0, 1, 4, 80, 80);
-        ends(x, 2, 1, 0, 4, 10, 12);
-        ends(x, 3, 0, 1, 4, 200, 200);
-        ends(x, 3, 2, 5, 4, -24, -20);
-        ends(x, 4, 0, 5, 4, 120, 120);
-        ends(x, 4, 2, 1, 4, -28, -25);
+        Check.instead(x, 2, 0, 1, 4, 80, 80);
+        Check.instead(x, 2, 1, 0, 4, 10, 12);
+        Check.instead(x, 3, 0, 1, 4, 200, 200);
+        Check.instead(x, 3, 2, 5, 4, -24, -20);
+        Check.instead(x, 4, 0, 5, 4, 120, 120);
+        Check.instead(x, 4, 2, 1, 4, -28, -25);
         // One with a higher number, and one that is made of the one that is replaced.
-        ends(x, 0, 0, 4, 0, -4, 2);
-        ends(x, 2, 0, 2, 4, 85, 86);
-        ends(x, 3, 0, 3, 4, 47, 66);
+        Check.instead(x, 0, 0, 4, 0, -4, 2);
+        Check.instead(x, 2, 0, 2, 4, 85, 86);
+        Check.instead(x, 3, 0, 3, 4, 47, 66);
         // That one itself, the same in its own place, and one of which it is not made.
-        ends(x, 3, 3, 5, 4, -64, -64);
-        ends(x, 2, 2, 2, 4, 45, 46);
-        ends(x, 2, 0, 0, 4, 45, 46);
-        ends(x, 2, 5, 0, 4, 45, 46);
-        ends(x, 2, 3, 5, 4, 45, 46);
-        ends(x, 0, 5, 1, 24, 5592405, 5592406);
-        ends(x, 2, 0, 1, 0, 4, 6);
-        ends(x, 2, 0, 1, 24, 83886080, 83886080);
+        Check.instead(x, 3, 3, 5, 4, -64, -64);
+        Check.instead(x, 2, 2, 2, 4, 45, 46);
+        Check.instead(x, 2, 0, 0, 4, 45, 46);
+        Check.instead(x, 2, 5, 0, 4, 45, 46);
+        Check.instead(x, 2, 3, 5, 4, 45, 46);
+        Check.instead(x, 0, 5, 1, 24, 5592405, 5592406);
+        Check.instead(x, 2, 0, 1, 0, 4, 6);
+        Check.instead(x, 2, 0, 1, 24, 83886080, 83886080);
     }
 
     private static void insteadOfNone() {
@@ -114,25 +102,25 @@ public final class IntervalsTest {
         x.ratio(0, 1);
         x.inverse(4);
         x.greater(5, 0);
-        none(x, 2, 3, 0, 4);
-        ends(x, 2, 1, 0, 4, 32, 32);
-        none(x, 3, 0, 2, 4);
-        none(x, 3, 0, 4, 4);
-        none(x, 3, 3, 5, 4);
-        ends(x, 5, 4, 0, 4, 16, 16);
-        ends(x, 5, 5, 1, 4, 1024, 1024);
-        ends(x, 6, 4, 1, 4, 16, 16);
-        ends(x, 6, 5, 1, 4, 1024, 1024);
-        none(x, 6, 0, 1, 4);
-        none(x, 6, 5, 5, 4);
-        ends(x, 0, 4, 5, 4, 16, 16);
+        Check.noInstead(x, 2, 3, 0, 4);
+        Check.instead(x, 2, 1, 0, 4, 32, 32);
+        Check.noInstead(x, 3, 0, 2, 4);
+        Check.noInstead(x, 3, 0, 4, 4);
+        Check.noInstead(x, 3, 3, 5, 4);
+        Check.instead(x, 5, 4, 0, 4, 16, 16);
+        Check.instead(x, 5, 5, 1, 4, 1024, 1024);
+        Check.instead(x, 6, 4, 1, 4, 16, 16);
+        Check.instead(x, 6, 5, 1, 4, 1024, 1024);
+        Check.noInstead(x, 6, 0, 1, 4);
+        Check.noInstead(x, 6, 5, 5, 4);
+        Check.instead(x, 0, 4, 5, 4, 16, 16);
         // The exponential of 0, if that was 1, 32 (above 1) or none.
         x.exp(4);
         x.ratio(32, 1);
-        ends(x, 7, 4, 0, 0, 1, 4);
-        none(x, 7, 4, 8, 0);
-        none(x, 7, 4, 8, 24);
-        none(x, 7, 4, 5, 4);
+        Check.instead(x, 7, 4, 0, 0, 1, 4);
+        Check.noInstead(x, 7, 4, 8, 0);
+        Check.noInstead(x, 7, 4, 8, 24);
+        Check.noInstead(x, 7, 4, 5, 4);
     }
 
     private static void wrongInstead() {
@@ -151,7 +139,7 @@ public final class IntervalsTest {
             Check.thrown("instead at " + wrong, Check.ARGUMENT, () -> x.instead(0, 0, 0, wrong, true));
             Check.thrown("instead of none at " + wrong, Check.ARGUMENT, () -> x.instead(1, 0, 0, wrong, true));
         }
-        none(x, 1, 0, 0, 24);
+        Check.noInstead(x, 1, 0, 0, 24);
     }
 
     private static void insteadChangesNothing() {
@@ -160,8 +148,8 @@ public final class IntervalsTest {
         x.ratio(1, 2);
         x.sum(0, 0);
         x.next(0);
-        ends(x, 2, 0, 1, 3, 8, 8);
-        none(x, 2, 0, x.ratio(65, 1), 3);
+        Check.instead(x, 2, 0, 1, 3, 8, 8);
+        Check.noInstead(x, 2, 0, x.ratio(65, 1), 3);
         Check.raw(x, 2, 3, 4, 6);
         Check.told(x, 2, 3, 4, 6);
         Check.raw(x, 0, 3, 2, 3);
