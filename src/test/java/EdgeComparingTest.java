@@ -150,11 +150,10 @@ public final class EdgeComparingTest {
         compare(x, x.ratio(4, 3), x.ratio(10, 3), 0, LESS);
         compare(x, x.ratio(-10, 3), x.ratio(-4, 3), 0, LESS);
         int upTo1 = x.difference(Stock.ONE, Stock.TINY);
-        int fromMore = x.sum(Stock.ONE, Stock.TINY);
+        int from2 = x.ratio(2, 1);
         for (int place : Stock.PLACES) {
-            compare(x, x.sum(upTo1, Stock.NIL), x.ratio(9, 4), place, LESS);
+            compare(x, upTo1, from2, place, LESS);
         }
-        compare(x, upTo1, fromMore, 24, WAITS);
         Check.due("LESS", LESS, () -> x.compare(Stock.NIL, bit, 24));
         Check.due("MORE", MORE, () -> x.compare(bit, Stock.NIL, 24));
     }
